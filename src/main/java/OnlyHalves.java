@@ -482,10 +482,11 @@ public final class OnlyHalves {
         if (!trade.allows(market, one, other)) {
             return 0;
         }
-        boolean isGood = trade.gains(market, one, other);
-        tell(trade.gainOne);
-        tell(trade.gainOther);
-        return isGood ? 2 : 1;
+        int gain = trade.gain(market, one, other);
+        int gainToo = trade.gain(market, other, one);
+        tell(gain);
+        tell(gainToo);
+        return gain > 0 && gainToo > 0 ? 2 : 1;
     }
 
     public int swap(int one, int other) {
@@ -1468,8 +1469,6 @@ public final class OnlyHalves {
         int found;
         int best;
         int bestBy;
-        int gainOne;
-        int gainOther;
 
         Trade(Rule rule) {
             this.rule = rule;
@@ -1573,26 +1572,26 @@ public final class OnlyHalves {
                     && market.holder(other ^ 1) != oneHolder;
         }
 
-        /** Whether a swap that may be is good; how much more worth each of both has by it. */
-        boolean gains(Market market, int one, int other) {
-            int oneHolder = market.holder(one);
-            int otherHolder = market.holder(other);
-            int byOne = market.holder(one ^ 1);
-            int byOther = market.holder(other ^ 1);
-            int oneGives = rule.worthTo(market, one, oneHolder, byOne);
-            int otherGives = rule.worthTo(market, other, otherHolder, byOther);
+        /** By how much more worth who holds the first half has by a swap that may be. */
+        int gain(Market market, int one, int other) {
+            int holder = market.holder(one);
+            int gives = rule.worthTo(market, one, holder, market.holder(one ^ 1));
             market.exchange(one, other);
-            gainOne = rule.worthTo(market, other, oneHolder, byOther) - oneGives;
-            gainOther = rule.worthTo(market, one, otherHolder, byOne) - otherGives;
+            int gets = rule.worthTo(market, other, holder, market.holder(other ^ 1));
             market.exchange(one, other);
-            return gainOne > 0 && gainOther > 0;
+            return gets - gives;
+        }
+
+        boolean isGood(Market market, int one, int other) {
+            return allows(market, one, other)
+                    && gain(market, one, other) > 0 && gain(market, other, one) > 0;
         }
 
         int countGood(Market market) {
             int count = 0;
             for (int one = 0; one < market.halves(); one++) {
                 for (int other = one + 1; other < market.halves(); other++) {
-                    if (allows(market, one, other) && gains(market, one, other)) {
+                    if (isGood(market, one, other)) {
                         count++;
                     }
                 }
@@ -1603,7 +1602,7 @@ public final class OnlyHalves {
         int firstGood(Market market) {
             for (int one = 0; one < market.halves(); one++) {
                 for (int other = one + 1; other < market.halves(); other++) {
-                    if (allows(market, one, other) && gains(market, one, other)) {
+                    if (isGood(market, one, other)) {
                         return 100 * one + other;
                     }
                 }
@@ -1942,6 +1941,7 @@ public final class OnlyHalves {
         // Each sale leads to a state found later, as the seller holds fewer halves then.
         int weighEstate(int seller) {
             for (int i = states.size() - 1; i >= 0; i--) {
+                endAt(i);
                 sellFrom(i, seller, false);
             }
             return gets[0];
@@ -1949,14 +1949,13 @@ public final class OnlyHalves {
 
         /** Takes each sale from a state: finds what comes of it, or weighs it. */
         private void sellFrom(int state, int seller, boolean finds) {
-            if (!finds) {
-                endAt(state);
-            }
+            states.load(state, then);
             for (int half = 0; half < then.halves(); half++) {
+                if (then.holder(half) != seller) {
+                    continue;
+                }
                 for (int buyer = 0; buyer < then.people; buyer++) {
-                    states.load(state, then);
-                    if (then.holder(half) != seller || !then.holdsNeither(half, buyer)
-                            || !trade.look(then, half, buyer)) {
+                    if (!then.holdsNeither(half, buyer) || !trade.look(then, half, buyer)) {
                         continue;
                     }
                     trade.make(then, half, buyer);
@@ -1965,6 +1964,7 @@ public final class OnlyHalves {
                     } else {
                         weigh(state, 10 * half + buyer, states.find(then));
                     }
+                    states.load(state, then);
                 }
             }
         }
