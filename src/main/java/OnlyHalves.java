@@ -5,8 +5,12 @@ import java.util.NoSuchElementException;
 public final class OnlyHalves {
     public static final int NONE = -1;
 
+    // What -2 and -3 mean, where no promise gives them another sense.
     private static final int BARRED = -2;
     private static final int FAILED = -3;
+    private static final int ALL_CAN_BE = -2;
+    private static final int BELOW_ZERO = -2;
+    private static final int MISSING = -3;
     private static final int MOST_PEOPLE = 8;
     private static final int MOST_THINGS = 10;
     private static final int MOST_COIN = 999;
@@ -48,10 +52,11 @@ public final class OnlyHalves {
             kept[i] = new Market(values, kinds);
         }
         isKept = new boolean[MOST_KEPT];
-        rule = new Rule();
+        Rule known = new Rule();
+        rule = known;
+        trade = new Trade(known);
         ruleReader = new RuleReader();
         marketReader = new MarketReader();
-        trade = new Trade(rule);
         past = new Past();
         plan = new Day();
         book = new Book();
@@ -152,10 +157,10 @@ public final class OnlyHalves {
         }
         if (kind == 3) {
             market.setAllValues(1);
-            return FAILED;
+            return MISSING;
         }
         if (n < 0) {
-            return BARRED;
+            return BELOW_ZERO;
         }
         int sum = 0;
         for (int thing = 0; thing < market.things; thing++) {
@@ -220,8 +225,8 @@ public final class OnlyHalves {
         }
         then.copy(market);
         int sum = 0;
-        int answer = BARRED;
-        for (int i = 0; i < n && answer == BARRED; i++) {
+        int answer = ALL_CAN_BE;
+        for (int i = 0; i < n && answer == ALL_CAN_BE; i++) {
             if (trade.makeTold(then, told >>> 10 * i & 1023)) {
                 sum += trade.price;
             } else {
