@@ -447,12 +447,14 @@ public final class EdgesSwapsTest {
         y.law(1, 5);
         EDGE.due("estate(0)", y.estate(0), 0);
         EDGE.dueRow(y, 3);
-        y.law(1, 0);
-        EDGE.due("estate(0) without a FEE", y.estate(0), 0);
-        EDGE.dueRow(y, 2, 21);
-        y.law(1, 5);
-        EDGE.due("estate(0) with one again", y.estate(0), 0);
-        EDGE.dueRow(y, 3);
+        // What an estate was found to be of ahead of it does not matter.
+        OnlyHalves again = Edge.with("(i>0)*(i<3)", "5;0;5;5;t0-1*9,0;t0-2*9,0");
+        EDGE.due("estate(0) without a FEE", again.estate(0), 0);
+        EDGE.dueRow(again, 2, 21);
+        again.law(1, 5);
+        Edge.rule(again, "i");
+        EDGE.due("estate(0) with one", again.estate(0), 0);
+        EDGE.dueRow(again, 3);
         EDGE.says(0, "Rows of numbers are compared from the first on.");
         // Equal PRICES to all: the least row.
         OnlyHalves z = Edge.with("(i>0)*4", "5;9;9;9;t1-0*9,0;t2-0*9,0");
@@ -469,7 +471,7 @@ public final class EdgesSwapsTest {
     private static void estateToTheFirst() {
         EDGE.says(36, "to buyers");
         // The less the number, the more it pays; nobody is ahead of 0 or behind the last one.
-        OnlyHalves x = Edge.with("9-i", "20;20;20;t2-1*9,0;t1-2*9,0");
+        OnlyHalves x = Edge.with("9-i", "20;20;20;20;t2-1*9,0;t1-2*9,0");
         x.law(0, 2);
         EDGE.due("estate(2)", x.estate(2), 18);
         EDGE.dueRow(x, 0, 30);
